@@ -239,6 +239,10 @@ public final class PromisesTest {
         chart.fault(1, 0);
         check.due("7: it is there", chart.send(0, 1, 0), 0);
         shipIs("7: comes as it is sent", chart, 0, CableChart.SPLICES, 15, 0, 6);
+        chart.cable(0, 2, 2, 1, 1);
+        chart.ship(0, 1);
+        chart.fault(2, 1);
+        check.throwsState("7: the fault is at another span", () -> chart.send(1, 2, 0));
     }
 
     /** The sum is cut before it is added: the ways up and down are not alike. */
@@ -566,6 +570,24 @@ public final class PromisesTest {
         sums("14: less price", chart, 0, 9, 500, 1);
         laterPlaceDecides();
         forFree();
+        nineAgainstOne(0, 500, 1, 1);
+        nineAgainstOne(1111, 55, 9999, 496);
+        nineAgainstOne(5, 1, 45, 10);
+    }
+
+    /** Nine cables that are better by the least bit than one, which has the lowest number. */
+    private static void nineAgainstOne(int price, int delay, int priceOfOne, int delayOfOne) {
+        CableChart chart = new CableChart();
+        for (int i = 0; i < 10; i++) {
+            chart.island(i, i);
+        }
+        chart.cable(0, 9, 1, delayOfOne, priceOfOne);
+        for (int i = 0; i < 9; i++) {
+            chart.cable(i, i + 1, 1, delay, price);
+        }
+        chart.trader(0, 9, 5000, 0, 0, 0);
+        way("14: nine against one", chart, 0, 1, 2, 3, 4, 5, 6, 7, 8, 9);
+        sums("14: nine against one", chart, 0, 9 * price, 9 * delay, 9);
     }
 
     private static void laterPlaceDecides() {
