@@ -5,11 +5,23 @@ final class Check {
     }
 
     private final String name;
+    private String sentence = "";
     private int asked = 0;
     private int wrong = 0;
 
     Check(String name) {
         this.name = name;
+    }
+
+    /** Runs the test of one sentence of the document; what it throws itself is not as due. */
+    void sentence(String words, Runnable test) {
+        sentence = "\"" + words + "\": ";
+        try {
+            test.run();
+        } catch (RuntimeException | Error thrown) {
+            due("the test itself", "throws." + thrown.getClass().getSimpleName(), "no throw");
+        }
+        sentence = "";
     }
 
     void due(String what, long got, long want) {
@@ -24,7 +36,7 @@ final class Check {
         asked++;
         if (!got.equals(want)) {
             wrong++;
-            System.out.println(name + ": " + what + " answered " + got + ", due is " + want);
+            System.out.println(name + ": " + sentence + what + " answered " + got + ", due is " + want);
         }
     }
 

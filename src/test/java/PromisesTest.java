@@ -34,18 +34,6 @@ public final class PromisesTest {
         check.end();
     }
 
-    /** Islands at 0, 0 and 10, 0 and 20, 0, with cables of one span from each to the next one. */
-    private static CableChart row(int islands) {
-        CableChart chart = new CableChart();
-        for (int i = 0; i < islands; i++) {
-            chart.island(10 * i, 0);
-        }
-        for (int i = 0; i + 1 < islands; i++) {
-            chart.cable(i, i + 1, 1, 10, 5);
-        }
-        return chart;
-    }
-
     private static void way(String what, CableChart chart, int trader, int... cables) {
         for (int place = 0; place < cables.length; place++) {
             check.due(what + ": way at " + place, chart.way(trader, place), cables[place]);
@@ -135,7 +123,7 @@ public final class PromisesTest {
         check.due("3: a new cable works", chart.works(15), true);
         chart.trader(0, 1, 5000, 0, 0, 0);
         sums("3: over the least", chart, 0, 0, 1, 1);
-        CableChart late = row(2);
+        CableChart late = Charts.row(2);
         late.trader(0, 1, 5000, 0, 0, 0);
         way("3: ahead of a cheaper one", late, 0, 0);
         late.cable(1, 0, 1, 1, 4);
@@ -143,7 +131,7 @@ public final class PromisesTest {
     }
 
     private static void promise4() {
-        CableChart chart = row(2);
+        CableChart chart = Charts.row(2);
         chart.cable(0, 1, 1, 10, 6);
         chart.trader(0, 1, 5000, 0, 0, 0);
         check.throwsIndex("4: cable below", () -> chart.price(-1, 1));
@@ -161,7 +149,7 @@ public final class PromisesTest {
     }
 
     private static void promise5() {
-        CableChart chart = row(3);
+        CableChart chart = Charts.row(3);
         chart.cable(0, 2, 8, 1, 1);
         check.throwsIndex("5: cable below", () -> chart.fault(-1, 0));
         check.throwsIndex("5: cable above", () -> chart.fault(3, 0));
@@ -194,7 +182,7 @@ public final class PromisesTest {
     }
 
     private static void promise6() {
-        CableChart chart = row(2);
+        CableChart chart = Charts.row(2);
         check.throwsIndex("6: island below", () -> chart.ship(-1, 1));
         check.throwsIndex("6: island above", () -> chart.ship(2, 1));
         check.throwsIndex("6: island above, speed wrong", () -> chart.ship(2, 0));
@@ -215,7 +203,7 @@ public final class PromisesTest {
     }
 
     private static void promise7() {
-        CableChart chart = row(3);
+        CableChart chart = Charts.row(3);
         chart.ship(0, 2);
         chart.fault(1, 0);
         check.throwsIndex("7: ship below", () -> chart.send(-1, 1, 0));
@@ -275,7 +263,7 @@ public final class PromisesTest {
     }
 
     private static void promise7SailsSplicesTests() {
-        CableChart chart = row(2);
+        CableChart chart = Charts.row(2);
         chart.trader(0, 1, 5000, 0, 0, 0);
         chart.ship(0, 5);
         chart.fault(0, 0);
@@ -300,7 +288,7 @@ public final class PromisesTest {
     }
 
     private static void promise7TwoShipsAtOneFault() {
-        CableChart chart = row(2);
+        CableChart chart = Charts.row(2);
         chart.fault(0, 0);
         chart.ship(0, 5);
         chart.ship(0, 1);
@@ -327,7 +315,7 @@ public final class PromisesTest {
     }
 
     private static void lowerShipComesAsTheHigherOneMends() {
-        CableChart chart = row(2);
+        CableChart chart = Charts.row(2);
         chart.fault(0, 0);
         chart.ship(0, 1);
         chart.ship(0, 5);
@@ -343,7 +331,7 @@ public final class PromisesTest {
     }
 
     private static void promise7AnotherFaultAtTheSpan() {
-        CableChart chart = row(2);
+        CableChart chart = Charts.row(2);
         chart.fault(0, 0);
         chart.ship(0, 5);
         chart.ship(0, 1);
@@ -358,7 +346,7 @@ public final class PromisesTest {
     }
 
     private static void promise8() {
-        CableChart chart = row(2);
+        CableChart chart = Charts.row(2);
         chart.island(3, 4);
         chart.ship(0, 2);
         check.throwsIndex("8: ship below", () -> chart.home(-1, 0));
@@ -380,7 +368,7 @@ public final class PromisesTest {
 
     /** A ship that was at a fault and goes to an island does not splice there. */
     private static void homeIsNoFault() {
-        CableChart chart = row(2);
+        CableChart chart = Charts.row(2);
         chart.ship(0, 20);
         chart.fault(0, 0);
         chart.send(0, 0, 0);
@@ -399,7 +387,7 @@ public final class PromisesTest {
     }
 
     private static void promise9() {
-        CableChart chart = row(2);
+        CableChart chart = Charts.row(2);
         check.throwsIndex("9: from below", () -> chart.trader(-1, 1, 1, 1, 1, 1));
         check.throwsIndex("9: from above", () -> chart.trader(2, 1, 1, 1, 1, 1));
         check.throwsIndex("9: to below", () -> chart.trader(0, -1, 1, 1, 1, 1));
@@ -427,7 +415,7 @@ public final class PromisesTest {
     }
 
     private static void promise10() {
-        CableChart chart = row(2);
+        CableChart chart = Charts.row(2);
         check.throwsArgument("10: below", () -> chart.pass(0));
         check.throwsArgument("10: far below", () -> chart.pass(Integer.MIN_VALUE));
         check.throwsArgument("10: above", () -> chart.pass(501));
@@ -440,7 +428,7 @@ public final class PromisesTest {
     }
 
     private static void promise10ShipsBeforeTraders() {
-        CableChart chart = row(2);
+        CableChart chart = Charts.row(2);
         chart.trader(0, 1, 5000, 7, 0, 1000);
         chart.ship(0, 20);
         chart.fault(0, 0);
@@ -452,7 +440,7 @@ public final class PromisesTest {
     }
 
     private static void promise11() {
-        CableChart chart = row(2);
+        CableChart chart = Charts.row(2);
         chart.cable(0, 1, 2, 1, 1);
         chart.ship(0, 20);
         check.throwsIndex("11: below", () -> chart.works(-1) ? 1 : 0);
@@ -471,7 +459,7 @@ public final class PromisesTest {
     }
 
     private static void promise12() {
-        CableChart chart = row(3);
+        CableChart chart = Charts.row(3);
         chart.cable(0, 2, 8, 1, 1);
         chart.ship(1, 20);
         check.throwsIndex("12: below 0", () -> chart.faultAt(-1));
@@ -495,7 +483,7 @@ public final class PromisesTest {
     }
 
     private static void promise13() {
-        CableChart chart = row(3);
+        CableChart chart = Charts.row(3);
         chart.ship(2, 3);
         check.throwsIndex("13: ship below", () -> chart.shipOf(-1, 0));
         check.throwsIndex("13: ship above", () -> chart.shipOf(1, 0));
@@ -516,7 +504,7 @@ public final class PromisesTest {
     }
 
     private static void promise14() {
-        CableChart chart = row(10);
+        CableChart chart = Charts.row(10);
         chart.trader(9, 0, 5000, 0, 0, 0);
         chart.trader(2, 5, 5000, 0, 0, 0);
         check.throwsIndex("14: trader below", () -> chart.way(-1, 0));
@@ -628,7 +616,7 @@ public final class PromisesTest {
     }
 
     private static void promise14FailsOver() {
-        CableChart chart = row(3);
+        CableChart chart = Charts.row(3);
         chart.cable(0, 2, 3, 50, 100);
         chart.ship(0, 20);
         chart.trader(0, 2, 30, 3, 2, 100);
@@ -644,7 +632,7 @@ public final class PromisesTest {
     }
 
     private static void promise15() {
-        CableChart chart = row(4);
+        CableChart chart = Charts.row(4);
         chart.price(1, 7);
         chart.trader(0, 3, 30, 0, 0, 0);
         check.throwsIndex("15: trader below", () -> chart.sum(-1, 0));
@@ -661,7 +649,7 @@ public final class PromisesTest {
     }
 
     private static void promise16() {
-        CableChart chart = row(10);
+        CableChart chart = Charts.row(10);
         chart.trader(9, 0, 30, 0, 0, 0);
         chart.trader(0, 9, 30, 0, 0, 0);
         check.throwsIndex("16: below", () -> chart.sumAnew(-1));
@@ -681,7 +669,7 @@ public final class PromisesTest {
     }
 
     private static void promise17() {
-        CableChart chart = row(3);
+        CableChart chart = Charts.row(3);
         chart.trader(0, 2, 20, 3, 2, 100);
         check.throwsIndex("17: trader below", () -> chart.account(-1, 0));
         check.throwsIndex("17: trader above", () -> chart.account(1, 0));
@@ -704,7 +692,7 @@ public final class PromisesTest {
     }
 
     private static void promise17LateAndCut() {
-        CableChart chart = row(3);
+        CableChart chart = Charts.row(3);
         chart.cable(0, 2, 1, 21, 50);
         chart.trader(0, 2, 20, 3, 2, 100);
         chart.trader(2, 0, 21, 30, 20, 1000);
@@ -721,7 +709,7 @@ public final class PromisesTest {
     }
 
     private static void promise17MostCredit() {
-        CableChart chart = row(3);
+        CableChart chart = Charts.row(3);
         chart.trader(0, 2, 1, 3, 2, 9);
         chart.trader(0, 2, 1, 9999, 9999, 1000000);
         chart.trader(0, 2, 1, 9999, 9999, 0);
@@ -758,7 +746,7 @@ public final class PromisesTest {
     }
 
     private static void promise18() {
-        CableChart chart = row(10);
+        CableChart chart = Charts.row(10);
         chart.ship(0, 20);
         check.throwsIndex("18: below", () -> chart.reach(-1));
         check.throwsIndex("18: above", () -> chart.reach(10));
